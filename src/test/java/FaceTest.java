@@ -1,0 +1,87 @@
+import java.lang.reflect.Constructor;
+import java.lang.reflect.Field;
+import java.lang.reflect.Method;
+import java.lang.reflect.Modifier;
+import java.util.ArrayList;
+import java.util.List;
+import java.util.TreeSet;
+
+/** The document's public face, and the rules of the language that can be seen in the compiled class. */
+public final class FaceTest {
+    private static final String[] FACE = {
+        "public int type(char) throws IllegalArgumentException,IllegalStateException",
+        "public void wipe()",
+        "public int rules(boolean) throws IllegalArgumentException",
+        "public int wrong()",
+        "public int block(int) throws IllegalArgumentException,IllegalStateException",
+        "public int size(int) throws IndexOutOfBoundsException",
+        "public int cell(int,int) throws IndexOutOfBoundsException",
+        "public int back(int) throws IndexOutOfBoundsException",
+        "public char heard(int)",
+        "public int pages()",
+        "public int at(int,int,int) throws IndexOutOfBoundsException",
+        "public int where(int) throws IndexOutOfBoundsException",
+        "public int heading(int)",
+        "public void clear()",
+    };
+
+    public static void main(String[] args) {
+        hasTheFaceAlone();
+        keepsNamesApart();
+        hasNoStaticState();
+        Desk.end();
+    }
+
+    private static void hasTheFaceAlone() {
+        TreeSet<String> found = new TreeSet<>();
+        for (Method m : DotBook.class.getDeclaredMethods()) {
+            if (!Modifier.isPrivate(m.getModifiers())) {
+                found.add(m.toString().replace("DotBook.", "").replace("java.lang.", ""));
+            }
+        }
+        Desk.due("methods", found, new TreeSet<>(List.of(FACE)));
+        List<String> made = new ArrayList<>();
+        for (Constructor<?> c : DotBook.class.getDeclaredConstructors()) {
+            made.add(c.toString());
+        }
+        Desk.due("constructors", made, "[public DotBook(int,int)]");
+        for (Field f : DotBook.class.getDeclaredFields()) {
+            Desk.due("private: " + f, Modifier.isPrivate(f.getModifiers()), true);
+        }
+        Desk.due("final", Modifier.isFinal(DotBook.class.getModifiers()), true);
+    }
+
+    private static List<Class<?>> allClasses() {
+        List<Class<?>> all = new ArrayList<>(List.of(DotBook.class.getDeclaredClasses()));
+        all.add(DotBook.class);
+        return all;
+    }
+
+    private static void keepsNamesApart() {
+        TreeSet<String> faceNames = new TreeSet<>();
+        for (Method m : DotBook.class.getMethods()) {
+            faceNames.add(m.getName());
+        }
+        for (Class<?> c : allClasses()) {
+            for (Method m : c.getDeclaredMethods()) {
+                boolean ofFace = c == DotBook.class && Modifier.isPublic(m.getModifiers());
+                Desk.due("own name: " + m, !ofFace && faceNames.contains(m.getName()), false);
+                Desk.due("at most seven parameters: " + m, m.getParameterCount() <= 7, true);
+            }
+        }
+    }
+
+    private static void hasNoStaticState() {
+        List<Class<?>> all = allClasses();
+        Desk.due("at most twelve classes", all.size() <= 12, true);
+        for (Class<?> c : all) {
+            int fields = 0;
+            for (Field f : c.getDeclaredFields()) {
+                boolean isStatic = Modifier.isStatic(f.getModifiers());
+                Desk.due("final: " + f, !isStatic || Modifier.isFinal(f.getModifiers()), true);
+                fields += isStatic ? 0 : 1;
+            }
+            Desk.due("at most twenty fields: " + c, fields <= 20, true);
+        }
+    }
+}
