@@ -16,6 +16,7 @@ public final class PagesTest {
         listsHeadings();
         tellsPlaces();
         clears();
+        usesBlocksAgain();
         Desk.end();
     }
 
@@ -198,6 +199,9 @@ public final class PagesTest {
     }
 
     private static void listsHeadings() {
+        DotBook only = new DotBook(10, 8);
+        Desk.block(only, Desk.HEADING, "h");
+        Desk.due("the first block", only.heading(0), 0);
         DotBook x = new DotBook(10, 8);
         Desk.block(x, Desk.ITEM, "a");
         Desk.block(x, Desk.HEADING, "h");
@@ -260,5 +264,18 @@ public final class PagesTest {
         for (int b = 2; b <= 12; b++) {
             Desk.due("there is room for all blocks", Desk.block(x, Desk.PARAGRAPH, ""), b);
         }
+    }
+
+    private static void usesBlocksAgain() {
+        DotBook x = new DotBook(10, 4);
+        for (int turn = 0; turn < 5; turn++) {
+            Desk.block(x, Desk.HEADING, "abcdefghij ".repeat(7));
+            Desk.due("the seventh line", Desk.line(x, 3, 0, 10), "abcdefghij");
+            x.clear();
+        }
+        Desk.block(x, Desk.PARAGRAPH, "kl");
+        Desk.block(x, Desk.ITEM, "mn");
+        Desk.due("nothing of earlier blocks", Desk.page(x, 1, 10, 4), "  kl      |mn        |          |        #a|");
+        Desk.due("pages", x.pages(), 1);
     }
 }

@@ -10,6 +10,7 @@ public final class ReadBackTest {
         readsUnknownCells();
         readsRulesWithSigns();
         keepsWhatIsHeard();
+        readsNothingOfAnEarlierBlock();
         hearsTheLongestText();
         Desk.end();
     }
@@ -27,7 +28,7 @@ public final class ReadBackTest {
     private static void readsPlainTexts() {
         String[] texts = {
             "", " ", "   ", "abcdefghijklmnopqrstuvwxyz", ".,;:?!-'", "1234567890", "  a  b  ", "A", "Ab", "aB", "ABc",
-            "AB CD", "AB cd", "1a", "1k", "12 ab", "a1", "1A", "1.2", "10 2b 3z? AbC D", "0123456789",
+            "AB CD", "AB cd", "Z", "AZ", "Zz", "1a", "1k", "12 ab", "a1", "1A", "1.2", "10 2b 3z? AbC D", "0123456789",
         };
         for (String text : texts) {
             hears("", "", text, text);
@@ -133,6 +134,22 @@ public final class ReadBackTest {
         Desk.block(x, Desk.BREAK, "");
         Desk.due("a break", x.back(1), 0);
         Desk.due("is heard as nothing", x.heard(0), ' ');
+    }
+
+    private static void readsNothingOfAnEarlierBlock() {
+        DotBook x = Desk.withRules(20, 10, "a vw=1-12");
+        Desk.block(x, Desk.PARAGRAPH, "ab");
+        x.clear();
+        Desk.block(x, Desk.PARAGRAPH, "a");
+        Desk.due("a cell behind the end", Desk.heard(x, 0), "a");
+        x = Desk.withRules(20, 10, "w xy=4;e vw=1-12");
+        Desk.block(x, Desk.PARAGRAPH, "aaaaaaaab");
+        x.clear();
+        Desk.block(x, Desk.PARAGRAPH, "xy");
+        Desk.due("a whole piece", Desk.heard(x, 0), "xy");
+        x.clear();
+        Desk.block(x, Desk.PARAGRAPH, "bcvw");
+        Desk.due("the end of a piece", Desk.heard(x, 0), "bcvw");
     }
 
     private static void hearsTheLongestText() {

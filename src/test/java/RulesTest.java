@@ -54,9 +54,13 @@ public final class RulesTest {
         Desk.due("the second is wrong", x.wrong(), 1);
         x.wipe();
         Desk.due("part of other letters", Desk.rules(x, false, "a abc=1;a bc=1"), "4");
+        Desk.due("other first letter, other last letter", Desk.rules(x, false, "a bbc=1;a abb=1"), "6");
         Desk.due("behind a call without wrong ones", x.wrong(), -1);
         x = new DotBook(20, 10);
         Desk.due("a wrong one does not count", Desk.rules(x, true, "a ab=7;a ab=1;a ab=2"), "1");
+        Desk.due("the first wrong one", x.wrong(), 0);
+        x = new DotBook(20, 10);
+        Desk.due("nor do its letters", Desk.rules(x, true, "a abc=7;a ab=1;a ab=2"), "1");
         Desk.due("the first wrong one", x.wrong(), 0);
     }
 

@@ -57,6 +57,9 @@ public final class TranslateTest {
         gives("", "ABc", "32 1 32 3 9");
         gives("", "A B", "32 1 0 32 3");
         gives("", "A1B", "32 1 60 1 32 3");
+        gives("", "Z", "32 53");
+        gives("", "AZ", "32 32 1 53");
+        gives("", "Za", "32 53 1");
         gives("", "AB-CD", "32 32 1 3 36 32 32 9 25");
     }
 
@@ -82,12 +85,14 @@ public final class TranslateTest {
         gives("a ab=4", "ab cab abc cabc", "8 0 9 8 0 8 9 0 9 8 9");
         gives("a ab=4-5-6", "ab", "8 16 32");
         gives("a aa=4", "aaaaa", "8 8 1");
+        gives("a ab=4", "bb ac", "3 3 0 1 9");
     }
 
     private static void prefersRules() {
         gives("a ab=4;a abc=5", "abcab", "16 8");
         gives("a abc=5;a ab=4", "abcab", "16 8");
         gives("a ab=4;w ab=5", "ab", "16");
+        gives("w ab=5;a ab=4", "ab", "16");
         gives("a ab=4;b ab=5;m ab=6;e ab=56", "ababab", "16 32 48");
         gives("w ab=4;a abc=5", "abc", "16");
         gives("a abc=5;b ab=4", "abcd", "16 25");
