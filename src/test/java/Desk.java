@@ -13,8 +13,13 @@ final class Desk {
         50, 2, 6, 18, 38, 22, 36, 4
     };
 
+    private static final String PIECE = "abcdef";
+    private static final int MOST_PIECES = 11;
+
     private static int compared = 0;
     private static int failures = 0;
+    private static String sentence = "";
+    private static int comparedBefore = 0;
 
     private Desk() {
     }
@@ -23,12 +28,27 @@ final class Desk {
         compared++;
         if (!String.valueOf(got).equals(String.valueOf(due))) {
             failures++;
-            System.out.println(what + " answered " + got + ", due is " + due);
+            System.out.println(sentence + what + " answered " + got + ", due is " + due);
+        }
+    }
+
+    /** Begins the test of one sentence of the document, which is told with every answer that is not due. */
+    static void sentence(String place, String words) {
+        endSentence();
+        sentence = place + ", \"" + words + "\": ";
+        comparedBefore = compared;
+    }
+
+    private static void endSentence() {
+        if (!sentence.isEmpty() && compared == comparedBefore) {
+            failures++;
+            System.out.println(sentence + "no answer was looked at");
         }
     }
 
     /** Ends the test: with exit code 1 if an answer was not due, or none was looked at. */
     static void end() {
+        endSentence();
         System.out.println(compared + " answers, " + failures + " of them not as due");
         if (failures > 0 || compared == 0) {
             System.exit(1);
@@ -67,6 +87,16 @@ final class Desk {
     static String block(DotBook x, int kind, String text) {
         typed(x, text);
         return outcome(() -> x.block(kind));
+    }
+
+    /** Puts lines into a book of width 10, by items with a piece on each line: how many blocks it took. */
+    static int putLines(DotBook x, int count) {
+        int blocks = 0;
+        for (int left = count; left > 0; left -= MOST_PIECES) {
+            block(x, ITEM, (PIECE + " ").repeat(Math.min(left, MOST_PIECES)).trim());
+            blocks++;
+        }
+        return blocks;
     }
 
     /** How many characters are typed, found out by typing one more; what is typed is gone then. */
