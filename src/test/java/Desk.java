@@ -34,8 +34,13 @@ final class Desk {
 
     /** Begins the test of one sentence of the document, which is told with every answer that is not due. */
     static void sentence(String place, String words) {
+        sentence(place, words, "");
+    }
+
+    /** The test of one case of a sentence that names several, or of what it leaves to be understood. */
+    static void sentence(String place, String words, String meant) {
         endSentence();
-        sentence = place + ", \"" + words + "\": ";
+        sentence = place + ", \"" + words + "\"" + (meant.isEmpty() ? "" : " (" + meant + ")") + ": ";
         comparedBefore = compared;
     }
 

@@ -103,6 +103,10 @@ public final class ModelTest {
     }
 
     private void call(String what, Object got, Object due) {
+        // What an object answers behind its 512th call is free.
+        if (left == 0) {
+            return;
+        }
         left--;
         calls.append("; ").append(what);
         if (same && !String.valueOf(got).equals(String.valueOf(due))) {

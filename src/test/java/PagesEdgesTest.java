@@ -80,7 +80,7 @@ public final class PagesEdgesTest {
     }
 
     private static void refusesOtherLines() {
-        Desk.sentence("Promise 12", "there is no such page, line or place (line)");
+        Desk.sentence("Promise 12", "there is no such page, line or place", "line");
         DotBook x = ofTwoPages();
         int[] none = {LEAST, -1, 4, 5, 20, GREATEST};
         for (int line : none) {
@@ -92,7 +92,7 @@ public final class PagesEdgesTest {
     }
 
     private static void refusesOtherPlaces() {
-        Desk.sentence("Promise 12", "there is no such page, line or place (place)");
+        Desk.sentence("Promise 12", "there is no such page, line or place", "place");
         DotBook x = ofTwoPages();
         int[] none = {LEAST, -1, 10, 11, 40, GREATEST};
         for (int place : none) {
@@ -104,7 +104,7 @@ public final class PagesEdgesTest {
     }
 
     private static void refusesAPageThatOnlyABreakMade() {
-        Desk.sentence("Promise 12", "there is no such page (behind a break at the end)");
+        Desk.sentence("Promise 12", "there is no such page", "behind a break at the end");
         DotBook x = ofTwoPages();
         Desk.block(x, Desk.BREAK, "");
         Desk.due("page 3", Desk.outcome(() -> x.at(3, 0, 0)), OUT);
@@ -205,7 +205,7 @@ public final class PagesEdgesTest {
     }
 
     private static void clearsThePlaceBehindTheLastBlock() {
-        Desk.sentence("Promise 15", "Takes all blocks out of the book (what comes next is the first)");
+        Desk.sentence("Promise 15", "Takes all blocks out of the book", "what comes next is the first");
         for (int kind = Desk.PARAGRAPH; kind <= Desk.BREAK; kind++) {
             DotBook x = ofTwoPages();
             Desk.block(x, kind, "ab");
@@ -225,7 +225,7 @@ public final class PagesEdgesTest {
     }
 
     private static void clearsAnEmptyBook() {
-        Desk.sentence("Promise 15", "Takes all blocks out of the book (none is there)");
+        Desk.sentence("Promise 15", "Takes all blocks out of the book", "there is none");
         DotBook x = new DotBook(10, 4);
         x.clear();
         x.clear();
@@ -268,7 +268,7 @@ public final class PagesEdgesTest {
     }
 
     private static void fillsTheBookAgainAndAgain() {
-        Desk.sentence("What it is", "at most 512 calls (twelve blocks, and clear, as often as there are calls)");
+        Desk.sentence("What it is", "at most 512 calls", "twelve blocks and clear, over and over");
         DotBook x = new DotBook(10, 4);
         for (int turn = 0; turn < 19; turn++) {
             for (int b = 1; b <= 12; b++) {
@@ -282,7 +282,7 @@ public final class PagesEdgesTest {
     }
 
     private static void readsBackAgainAndAgain() {
-        Desk.sentence("What it is", "at most 512 calls (back, as often as there are calls)");
+        Desk.sentence("What it is", "at most 512 calls", "back, over and over");
         DotBook x = Desk.withRules(10, 4, "a uvwxyz=1");
         Desk.block(x, Desk.PARAGRAPH, "a".repeat(80));
         for (int i = 0; i < 410; i++) {

@@ -51,16 +51,16 @@ public final class PagesTest {
 
     private static void writesPageNumbers() {
         DotBook x = new DotBook(10, 4);
-        for (int b = 0; b < 12; b++) {
+        for (int b = 0; b < 5; b++) {
             Desk.block(x, Desk.ITEM, "abcdefghij klmn opqr stuv wxyz abcd efgh ijkl mnop qrst uvwx yzab cdef ghij klmn");
         }
-        Desk.due("pages", x.pages(), 12 * 15 / 3);
+        Desk.due("pages", x.pages(), 5 * 15 / 3);
         Desk.due("page 9", Desk.line(x, 9, 3, 10), "        #i");
         Desk.due("page 10", Desk.line(x, 10, 3, 10), "       #aj");
-        Desk.due("page 59", Desk.line(x, 59, 3, 10), "       #ei");
-        Desk.due("page 60", Desk.page(x, 60, 10, 4), "    cdef  |    ghij  |    klmn  |       #fj|");
-        Desk.due("page 61", Desk.outcome(() -> x.at(61, 0, 0)), OUT);
-        Desk.due("the last block", x.where(11), 56 * 32);
+        Desk.due("page 20", Desk.line(x, 20, 3, 10), "       #bj");
+        Desk.due("page 25", Desk.page(x, 25, 10, 4), "    cdef  |    ghij  |    klmn  |       #be|");
+        Desk.due("page 26", Desk.outcome(() -> x.at(26, 0, 0)), OUT);
+        Desk.due("the last block", x.where(4), 21 * 32);
     }
 
     private static void indentsLines() {

@@ -85,7 +85,7 @@ public final class ReadBackEdgesTest {
     }
 
     private static void aNumberEndsWithItsPiece() {
-        Desk.sentence("Terms, for promise 9", "cut at blank cells into PIECES (a number ends with its own)");
+        Desk.sentence("Terms, for promise 9", "cut at blank cells into PIECES", "a number ends with its own");
         hears("", "", "1 a", "1 a");
         hears("a vw=3456", "", "vw a", " a");
         hears("a vw=3456", "", "vwa a", "1 a");
@@ -147,7 +147,7 @@ public final class ReadBackEdgesTest {
     }
 
     private static void signsComeBeforeRules() {
-        Desk.sentence("Terms, for promise 9", "Otherwise, of the rules whose cells stand from there on");
+        Desk.sentence("Terms, for promise 9", "Otherwise, of the rules whose cells stand", "signs come first");
         hears("", "a vw=6-1", "Ab", "Ab");
         hears("", "a vw=3456-1", "1b", "1b");
         hears("", "a vw=56-1", "1a", "1a");
@@ -157,7 +157,7 @@ public final class ReadBackEdgesTest {
     }
 
     private static void wholeIsAllThePiece() {
-        Desk.sentence("Terms, for promise 9", "that APPLY (as above, with cells of the piece): WHOLE");
+        Desk.sentence("Terms, for promise 9", "that APPLY (as above, with cells of the piece", "WHOLE");
         hears("", "w vw=1", "a", "vw");
         hears("", "w vw=1", "a a", "vw vw");
         hears("", "w vw=1", "ab ba bab a.", "ab ba bab a.");
@@ -165,7 +165,7 @@ public final class ReadBackEdgesTest {
     }
 
     private static void beginHasCellsBehind() {
-        Desk.sentence("Terms, for promise 9", "that APPLY (as above, with cells of the piece): BEGIN");
+        Desk.sentence("Terms, for promise 9", "that APPLY (as above, with cells of the piece", "BEGIN");
         hears("", "b vw=1", "ab", "vwb");
         hears("", "b vw=1", "a. a-", "vw. vw-");
         hears("", "b vw=1", "a ba bab -ab", "a ba bab -ab");
@@ -173,7 +173,7 @@ public final class ReadBackEdgesTest {
     }
 
     private static void middleHasCellsOnBothSides() {
-        Desk.sentence("Terms, for promise 9", "that APPLY (as above, with cells of the piece): MIDDLE");
+        Desk.sentence("Terms, for promise 9", "that APPLY (as above, with cells of the piece", "MIDDLE");
         hears("", "m vw=1", "bab", "bvwb");
         hears("", "m vw=1", "-a-", "-vw-");
         hears("", "m vw=1", "a ab ba", "a ab ba");
@@ -181,7 +181,7 @@ public final class ReadBackEdgesTest {
     }
 
     private static void endHasCellsBefore() {
-        Desk.sentence("Terms, for promise 9", "that APPLY (as above, with cells of the piece): END");
+        Desk.sentence("Terms, for promise 9", "that APPLY (as above, with cells of the piece", "END");
         hears("", "e vw=1", "ba", "bvw");
         hears("", "e vw=1", "-a", "-vw");
         hears("", "e vw=1", "a ab bab ba-", "a ab bab ba-");
@@ -189,7 +189,7 @@ public final class ReadBackEdgesTest {
     }
 
     private static void alwaysIsAnywhere() {
-        Desk.sentence("Terms, for promise 9", "that APPLY (as above, with cells of the piece): ALWAYS");
+        Desk.sentence("Terms, for promise 9", "that APPLY (as above, with cells of the piece", "ALWAYS");
         hears("", "a vw=1", "a ab bab ba", "vw vwb bvwb bvw");
     }
 
@@ -207,7 +207,7 @@ public final class ReadBackEdgesTest {
     }
 
     private static void otherSignsCount() {
-        Desk.sentence("Terms, for promise 9", "cells of the piece (other signs are of them)");
+        Desk.sentence("Terms, for promise 9", "with cells of the piece", "other signs are of them");
         hears("", "w vw=1;b xy=1", "1a 1ab", "1a 1ab");
         hears("", "e vw=1;m xy=1", "1a 1ab", "1vw 1xyb");
         hears("a xy=56", "w vw=1", "xya", "a");
@@ -304,7 +304,7 @@ public final class ReadBackEdgesTest {
     }
 
     private static void refusalsKeepWhatIsHeard() {
-        Desk.sentence("Promise 9", "a refused call leaves the text that is heard as it was");
+        Desk.sentence("Promise 9", "IndexOutOfBoundsException: there is none.", "the text that is heard stays");
         DotBook x = new DotBook(20, 10);
         Desk.block(x, Desk.PARAGRAPH, "ab");
         x.back(0);
@@ -336,7 +336,7 @@ public final class ReadBackEdgesTest {
     }
 
     private static void forgetsTheTextBefore() {
-        Desk.sentence("Promise 10", "Character i of the text that is heard (the latest one)");
+        Desk.sentence("Promise 10", "Character i of the text that is heard", "of the latest call");
         DotBook x = new DotBook(20, 10);
         Desk.block(x, Desk.PARAGRAPH, "abc");
         Desk.block(x, Desk.PARAGRAPH, "d");

@@ -331,7 +331,7 @@ public final class RulesEdgesTest {
     }
 
     private static void keepsEarlierRulesThen() {
-        Desk.sentence("Promise 4", "then no rule is taken (and none is lost)");
+        Desk.sentence("Promise 4", "then no rule is taken", "and none is lost");
         DotBook x = Desk.withRules(20, 10, "a ab=4");
         Desk.due("a right one and a wrong one", Desk.rules(x, false, "b ab=5;a ab=6"), REFUSED);
         x.wipe();

@@ -358,7 +358,7 @@ public final class TranslateEdgesTest {
     }
 
     private static void looksAtTheArgumentFirst() {
-        Desk.sentence("Promise 6", "IllegalArgumentException is named before IllegalStateException");
+        Desk.sentence("Promise 6", "IllegalArgumentException: there is no such kind", "named before IllegalStateException");
         DotBook x = full();
         Desk.due("no such kind", Desk.block(x, 4, "b"), REFUSED);
         x.wipe();
@@ -366,7 +366,7 @@ public final class TranslateEdgesTest {
     }
 
     private static void refusalsChangeNothing() {
-        Desk.sentence("Promise 6", "a refused call takes nothing, and what is typed stays");
+        Desk.sentence("Promise 6", "IllegalStateException: there are 12", "nothing is taken, and what is typed stays");
         DotBook x = new DotBook(10, 4);
         Desk.block(x, Desk.ITEM, "b");
         Desk.due("no such kind", Desk.block(x, 4, "ab"), REFUSED);
@@ -439,7 +439,7 @@ public final class TranslateEdgesTest {
     }
 
     private static void cellOfNoBlock() {
-        Desk.sentence("Promise 8", "IndexOutOfBoundsException: there is none. (no such block)");
+        Desk.sentence("Promise 8", "IndexOutOfBoundsException: there is none.", "no such block");
         DotBook x = withTwoBlocks();
         int[] none = {LEAST, -1, 2, 3, 11, 12, 13, GREATEST};
         for (int b : none) {
@@ -450,7 +450,7 @@ public final class TranslateEdgesTest {
     }
 
     private static void cellOfNoPlace() {
-        Desk.sentence("Promise 8", "IndexOutOfBoundsException: there is none. (no such cell)");
+        Desk.sentence("Promise 8", "IndexOutOfBoundsException: there is none.", "no such cell");
         DotBook x = withTwoBlocks();
         int[] none = {LEAST, -1, 2, 3, 79, 80, 199, 200, 201, GREATEST};
         for (int i : none) {

@@ -12,7 +12,8 @@ public final class TranslateTest {
         mindsCapitals();
         tellsOrigins();
         takesBlocks();
-        refusesBlocks();
+        refusesKindsAndCharacters();
+        refusesMoreThanTwelve();
         refusesPlaces();
         holdsTheDensestText();
         Desk.end();
@@ -139,20 +140,25 @@ public final class TranslateTest {
         Desk.due("later rules leave blocks alone", Desk.cells(x, 0), "1 3");
     }
 
-    private static void refusesBlocks() {
-        DotBook x = new DotBook(20, 10);
+    private static void refusesKindsAndCharacters() {
+        DotBook y = new DotBook(20, 10);
         int[] noKinds = {-1, 4, 5, Integer.MIN_VALUE, Integer.MAX_VALUE};
         for (int kind : noKinds) {
-            Desk.due("kind " + kind, Desk.block(x, kind, "a"), REFUSED);
-            Desk.due("typed stays", Desk.countTyped(x), 1);
+            Desk.due("kind " + kind, Desk.block(y, kind, "a"), REFUSED);
+            Desk.due("typed stays", Desk.countTyped(y), 1);
         }
         String others = "\"#$%&()*+/<=>@[\\]^_`{|}~";
-        for (char c : others.toCharArray()) {
-            for (int kind = Desk.PARAGRAPH; kind <= Desk.BREAK; kind++) {
+        for (int kind = Desk.PARAGRAPH; kind <= Desk.BREAK; kind++) {
+            DotBook x = new DotBook(20, 10);
+            for (char c : others.toCharArray()) {
                 Desk.due("block " + kind + " of " + c, Desk.block(x, kind, "ab" + c), REFUSED);
                 Desk.due("typed stays", Desk.countTyped(x), 3);
             }
         }
+    }
+
+    private static void refusesMoreThanTwelve() {
+        DotBook x = new DotBook(20, 10);
         for (int b = 1; b <= 12; b++) {
             Desk.due("block", Desk.block(x, b % 4, "a"), b);
         }

@@ -139,7 +139,7 @@ public final class TypingEdgesTest {
     }
 
     private static void leavesAloneWhatIsTyped() {
-        Desk.sentence("Promise 2", "a refused call types nothing");
+        Desk.sentence("Promise 2", "IllegalArgumentException: its code is not 32 .. 126", "what is typed stays");
         DotBook x = Desk.typed(new DotBook(10, 4), "ab");
         Desk.due("refused", Desk.outcome(() -> x.type((char) 127)), REFUSED);
         Desk.due("the next", x.type('c'), 3);
@@ -160,7 +160,7 @@ public final class TypingEdgesTest {
     }
 
     private static void looksAtTheCodeFirst() {
-        Desk.sentence("Promise 2", "IllegalArgumentException is named before IllegalStateException");
+        Desk.sentence("Promise 2", "IllegalArgumentException: its code is not 32 .. 126", "named before IllegalStateException");
         DotBook x = Desk.typed(new DotBook(10, 4), "a".repeat(80));
         Desk.due("both are due", Desk.outcome(() -> x.type((char) 31)), REFUSED);
         Desk.due("one is due", Desk.outcome(() -> x.type((char) 32)), FULL);
@@ -184,7 +184,7 @@ public final class TypingEdgesTest {
     }
 
     private static void wipesNothingElse() {
-        Desk.sentence("Promise 3", "wipe changes nothing but what is typed");
+        Desk.sentence("Promise 3", "Nothing is typed.", "all else stays");
         DotBook x = new DotBook(10, 4);
         Desk.rules(x, true, "a ab=1-2;no");
         Desk.block(x, Desk.HEADING, "ab");
