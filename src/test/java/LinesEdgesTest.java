@@ -6,6 +6,7 @@ public final class LinesEdgesTest {
     public static void main(String[] args) {
         pagesHaveHeightAndWidth();
         lastLinesHaveNumbers();
+        otherLinesAreForText();
         paragraphsHaveAnIndentOfTwo();
         itemsHaveAnIndentOfFour();
         headingsHaveNoIndent();
@@ -63,6 +64,17 @@ public final class LinesEdgesTest {
         Desk.due("page 11", Desk.line(x, 11, 3, 10), "       #aa");
         Desk.due("page 19", Desk.line(x, 19, 3, 10), "       #ai");
         Desk.due("the line above it", Desk.line(x, 19, 2, 10), EMPTY);
+    }
+
+    private static void otherLinesAreForText() {
+        Desk.sentence("Terms, for promise 12", "the others are TEXT lines");
+        for (int height = 4; height <= 20; height++) {
+            DotBook x = new DotBook(10, height);
+            Desk.putLines(x, height);
+            Desk.due("last text line of " + height, Desk.line(x, 1, height - 2, 10).trim(), "abcdef");
+            Desk.due("number of " + height, Desk.line(x, 1, height - 1, 10), "        #a");
+            Desk.due("first text line of page 2", Desk.line(x, 2, 0, 10).trim(), "abcdef");
+        }
     }
 
     private static void paragraphsHaveAnIndentOfTwo() {

@@ -11,6 +11,7 @@ public final class PagesEdgesTest {
     public static void main(String[] args) {
         countsPagesWithLines();
         countsOnePageAtLeast();
+        countsPagesFromOne();
         refusesOtherPages();
         refusesOtherLines();
         refusesOtherPlaces();
@@ -65,6 +66,13 @@ public final class PagesEdgesTest {
         DotBook x = new DotBook(10, 4);
         Desk.block(x, Desk.ITEM, "abcdefghij klmnop qrstuv wxyzab cdefgh ijklmn");
         return x;
+    }
+
+    private static void countsPagesFromOne() {
+        Desk.sentence("Promise 12", "(pages from 1, lines and places from 0)");
+        DotBook x = ofTwoPages();
+        Desk.due("page 1", Desk.page(x, 1, 10, 4), "abcdefghij|    klmnop|    qrstuv|        #a|");
+        Desk.due("page 2", Desk.page(x, 2, 10, 4), "    wxyzab|    cdefgh|    ijklmn|        #b|");
     }
 
     private static void refusesOtherPages() {
