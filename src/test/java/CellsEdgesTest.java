@@ -8,16 +8,16 @@ public final class CellsEdgesTest {
     private static final int[] MARK_CELLS = {50, 2, 6, 18, 38, 22, 36, 4};
 
     public static void main(String[] args) {
-        aCellIsTheSumOfItsDots();
-        blankIsNone();
-        lettersHaveTheirCells();
-        marksHaveTheirCells();
-        signsHaveTheirCells();
-        marksAndSpacesAreSingle();
-        otherCellsMeanNothing();
-        piecesAreReadFromLeftToRight();
-        aRuleGivesItsLetters();
-        Desk.end();
+        Desk.run(
+            CellsEdgesTest::aCellIsTheSumOfItsDots,
+            CellsEdgesTest::blankIsNone,
+            CellsEdgesTest::lettersHaveTheirCells,
+            CellsEdgesTest::marksHaveTheirCells,
+            CellsEdgesTest::signsHaveTheirCells,
+            CellsEdgesTest::marksAndSpacesAreSingle,
+            CellsEdgesTest::otherCellsMeanNothing,
+            CellsEdgesTest::piecesAreReadFromLeftToRight,
+            CellsEdgesTest::aRuleGivesItsLetters);
     }
 
     /** The digits of a cell's dots. */

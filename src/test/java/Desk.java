@@ -32,6 +32,19 @@ final class Desk {
         }
     }
 
+    /** Runs tests that stand each for itself: what one of them throws is its own failure, and the next one follows. */
+    static void run(Runnable... tests) {
+        for (Runnable test : tests) {
+            try {
+                test.run();
+            } catch (RuntimeException e) {
+                failures++;
+                System.out.println(sentence + "threw " + e + " at " + e.getStackTrace()[0]);
+            }
+        }
+        end();
+    }
+
     /** Begins the test of one sentence of the document, which is told with every answer that is not due. */
     static void sentence(String place, String words) {
         sentence(place, words, "");

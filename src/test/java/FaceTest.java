@@ -26,10 +26,10 @@ public final class FaceTest {
     };
 
     public static void main(String[] args) {
-        hasTheFaceAlone();
-        keepsNamesApart();
-        hasNoStaticState();
-        Desk.end();
+        Desk.run(
+            FaceTest::hasTheFaceAlone,
+            FaceTest::keepsNamesApart,
+            FaceTest::hasNoStaticState);
     }
 
     private static void hasTheFaceAlone() {

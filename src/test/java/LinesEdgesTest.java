@@ -4,28 +4,28 @@ public final class LinesEdgesTest {
     private static final String EMPTY = "          ";
 
     public static void main(String[] args) {
-        pagesHaveHeightAndWidth();
-        lastLinesHaveNumbers();
-        otherLinesAreForText();
-        paragraphsHaveAnIndentOfTwo();
-        itemsHaveAnIndentOfFour();
-        headingsHaveNoIndent();
-        piecesAreJoinedIfTheRoomSuffices();
-        blanksBetweenAreOne();
-        longPiecesAreCut();
-        longPiecesBeginALine();
-        theRestIsAPiece();
-        headingsAreCentred();
-        linesGoOnTheNextPage();
-        headingsHaveAnEmptyLine();
-        firstHeadingsHaveNone();
-        headingsNeedRoomForOneMore();
-        headingsMoveWithoutEmptyLine();
-        firstHeadingsDoNotMove();
-        breaksBeginAPage();
-        breaksOfAnEmptyPageDoNothing();
-        blocksWithoutPiecesDoNothing();
-        Desk.end();
+        Desk.run(
+            LinesEdgesTest::pagesHaveHeightAndWidth,
+            LinesEdgesTest::lastLinesHaveNumbers,
+            LinesEdgesTest::otherLinesAreForText,
+            LinesEdgesTest::paragraphsHaveAnIndentOfTwo,
+            LinesEdgesTest::itemsHaveAnIndentOfFour,
+            LinesEdgesTest::headingsHaveNoIndent,
+            LinesEdgesTest::piecesAreJoinedIfTheRoomSuffices,
+            LinesEdgesTest::blanksBetweenAreOne,
+            LinesEdgesTest::longPiecesAreCut,
+            LinesEdgesTest::longPiecesBeginALine,
+            LinesEdgesTest::theRestIsAPiece,
+            LinesEdgesTest::headingsAreCentred,
+            LinesEdgesTest::linesGoOnTheNextPage,
+            LinesEdgesTest::headingsHaveAnEmptyLine,
+            LinesEdgesTest::firstHeadingsHaveNone,
+            LinesEdgesTest::headingsNeedRoomForOneMore,
+            LinesEdgesTest::headingsMoveWithoutEmptyLine,
+            LinesEdgesTest::firstHeadingsDoNotMove,
+            LinesEdgesTest::breaksBeginAPage,
+            LinesEdgesTest::breaksOfAnEmptyPageDoNothing,
+            LinesEdgesTest::blocksWithoutPiecesDoNothing);
     }
 
     /** The first lines of page 1 for one block alone, in a book of width 10. */

@@ -9,26 +9,29 @@ public final class PagesEdgesTest {
     private static final int CALLS = 512;
 
     public static void main(String[] args) {
-        countsPagesWithLines();
-        countsOnePageAtLeast();
-        countsPagesFromOne();
-        refusesOtherPages();
-        refusesOtherLines();
-        refusesOtherPlaces();
-        refusesAPageThatOnlyABreakMade();
-        tellsPageAndLine();
-        tellsBlocksWithoutLines();
-        refusesOtherBlocks();
-        listsHeadingsWithLines();
-        listsNoOtherHeadings();
-        clearsTheBook();
-        clearsThePlaceBehindTheLastBlock();
-        clearsAnEmptyBook();
-        clearLeavesTheRest();
-        answersTheLastOfItsCalls();
-        fillsTheBookAgainAndAgain();
-        readsBackAgainAndAgain();
-        Desk.end();
+        Desk.run(
+            PagesEdgesTest::countsPagesWithLines,
+            PagesEdgesTest::countsOnePageAtLeast,
+            PagesEdgesTest::countsPagesFromOne,
+            PagesEdgesTest::refusesOtherPages,
+            PagesEdgesTest::refusesOtherLines,
+            PagesEdgesTest::refusesOtherPlaces,
+            PagesEdgesTest::answersForAFullBook,
+            PagesEdgesTest::refusesAPageThatOnlyABreakMade,
+            PagesEdgesTest::tellsPageAndLine,
+            PagesEdgesTest::tellsBlocksWithoutLines,
+            PagesEdgesTest::refusesOtherBlocks,
+            PagesEdgesTest::listsHeadingsWithLines,
+            PagesEdgesTest::listsNoOtherHeadings,
+            PagesEdgesTest::clearsTheBook,
+            PagesEdgesTest::clearsThePlaceBehindTheLastBlock,
+            PagesEdgesTest::clearsAnEmptyBook,
+            PagesEdgesTest::clearsWhatALongerBlockHad,
+            PagesEdgesTest::clearLeavesTheRest,
+            PagesEdgesTest::answersTheLastOfItsCalls,
+            PagesEdgesTest::fillsTheBookAgainAndAgain,
+            PagesEdgesTest::fillsLongBlocksAgainAndAgain,
+            PagesEdgesTest::readsBackAgainAndAgain);
     }
 
     private static void countsPagesWithLines() {
@@ -109,6 +112,18 @@ public final class PagesEdgesTest {
         }
         Desk.due("place 0", x.at(1, 0, 0), 1);
         Desk.due("place 9", x.at(1, 0, 9), 26);
+    }
+
+    private static void answersForAFullBook() {
+        Desk.sentence("Promise 12", "The cell at a place of a line of a page", "of twelve blocks, and of none of them");
+        DotBook x = new DotBook(10, 20);
+        for (int b = 0; b < 12; b++) {
+            Desk.block(x, Desk.ITEM, "a");
+        }
+        Desk.due("the twelfth block", x.at(1, 11, 0), 1);
+        Desk.due("a place behind its cell", x.at(1, 11, 1), 0);
+        Desk.due("the line behind it", x.at(1, 12, 0), 0);
+        Desk.due("the last text line", x.at(1, 18, 9), 0);
     }
 
     private static void refusesAPageThatOnlyABreakMade() {
@@ -200,7 +215,8 @@ public final class PagesEdgesTest {
 
     private static void clearsTheBook() {
         Desk.sentence("Promise 15", "Takes all blocks out of the book");
-        DotBook x = withHeadings();
+        DotBook x = new DotBook(10, 8);
+        Desk.block(x, Desk.HEADING, "abcdef ".repeat(8));
         x.clear();
         Desk.due("size", Desk.outcome(() -> x.size(0)), OUT);
         Desk.due("cell", Desk.outcome(() -> x.cell(0, 0)), OUT);
@@ -240,6 +256,17 @@ public final class PagesEdgesTest {
         Desk.due("pages", x.pages(), 1);
         Desk.due("a first block", Desk.block(x, Desk.ITEM, "a"), 1);
         Desk.due("where", x.where(0), 32);
+    }
+
+    private static void clearsWhatALongerBlockHad() {
+        Desk.sentence("Promise 15", "Takes all blocks out of the book", "a shorter block has nothing of a longer one");
+        DotBook x = Desk.withRules(10, 4, "a vw=1-12");
+        Desk.block(x, Desk.ITEM, "abcdefghij klmnop");
+        x.clear();
+        Desk.block(x, Desk.ITEM, "a");
+        Desk.due("cells", Desk.cells(x, 0), "1");
+        Desk.due("heard", Desk.heard(x, 0), "a");
+        Desk.due("page 1", Desk.page(x, 1, 10, 4), "a         |          |          |        #a|");
     }
 
     private static void clearLeavesTheRest() {
@@ -287,6 +314,17 @@ public final class PagesEdgesTest {
             x.clear();
         }
         Desk.due("pages at the end", x.pages(), 1);
+    }
+
+    private static void fillsLongBlocksAgainAndAgain() {
+        Desk.sentence("What it is", "at most 512 calls", "a block of eighty characters and clear, over and over");
+        DotBook x = new DotBook(10, 4);
+        for (int turn = 0; turn < 5; turn++) {
+            x.clear();
+            Desk.block(x, Desk.HEADING, "abcdefghij ".repeat(7) + "klm");
+            Desk.due("the first line in turn " + turn, x.at(1, 0, 9), 26);
+            Desk.due("the last line in turn " + turn, Desk.line(x, 3, 1, 10), "   klm    ");
+        }
     }
 
     private static void readsBackAgainAndAgain() {

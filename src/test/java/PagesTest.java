@@ -3,21 +3,21 @@ public final class PagesTest {
     private static final String OUT = "IndexOutOfBoundsException";
 
     public static void main(String[] args) {
-        isNew();
-        keepsWidthAndHeightInBounds();
-        writesPageNumbers();
-        indentsLines();
-        joinsPieces();
-        cutsLongPieces();
-        centresHeadings();
-        makesWayForHeadings();
-        breaksPages();
-        passesOverEmptyBlocks();
-        listsHeadings();
-        tellsPlaces();
-        clears();
-        usesBlocksAgain();
-        Desk.end();
+        Desk.run(
+            PagesTest::isNew,
+            PagesTest::keepsWidthAndHeightInBounds,
+            PagesTest::writesPageNumbers,
+            PagesTest::indentsLines,
+            PagesTest::joinsPieces,
+            PagesTest::cutsLongPieces,
+            PagesTest::centresHeadings,
+            PagesTest::makesWayForHeadings,
+            PagesTest::breaksPages,
+            PagesTest::passesOverEmptyBlocks,
+            PagesTest::listsHeadings,
+            PagesTest::tellsPlaces,
+            PagesTest::clears,
+            PagesTest::usesBlocksAgain);
     }
 
     private static void isNew() {

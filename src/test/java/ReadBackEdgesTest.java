@@ -5,36 +5,36 @@ public final class ReadBackEdgesTest {
     private static final int GREATEST = Integer.MAX_VALUE;
 
     public static void main(String[] args) {
-        blankCellsAreSpaces();
-        digitsFollowANumberSign();
-        otherCellsEndANumber();
-        aNumberEndsWithItsPiece();
-        letterSignsArePassedOver();
-        capitalSignsArePassedOver();
-        oneSignIsForTheNextLetter();
-        twoSignsAreForTheRestOfThePiece();
-        moreThanTwoSignsAreAsTwo();
-        signsComeBeforeRules();
-        wholeIsAllThePiece();
-        beginHasCellsBehind();
-        middleHasCellsOnBothSides();
-        endHasCellsBefore();
-        alwaysIsAnywhere();
-        capitalSignsAtTheBeginningDoNotCount();
-        otherSignsCount();
-        mostCellsComeFirst();
-        leastKindComesNext();
-        leastNumberComesLast();
-        lettersAndMarksAreThemselves();
-        otherCellsAreUnknown();
-        readsByTheRulesThatThereAre();
-        answersHowManyCharacters();
-        refusesOtherBlocks();
-        refusalsKeepWhatIsHeard();
-        isEmptyAtFirst();
-        isASpaceWhereThereIsNone();
-        forgetsTheTextBefore();
-        Desk.end();
+        Desk.run(
+            ReadBackEdgesTest::blankCellsAreSpaces,
+            ReadBackEdgesTest::digitsFollowANumberSign,
+            ReadBackEdgesTest::otherCellsEndANumber,
+            ReadBackEdgesTest::aNumberEndsWithItsPiece,
+            ReadBackEdgesTest::letterSignsArePassedOver,
+            ReadBackEdgesTest::capitalSignsArePassedOver,
+            ReadBackEdgesTest::oneSignIsForTheNextLetter,
+            ReadBackEdgesTest::twoSignsAreForTheRestOfThePiece,
+            ReadBackEdgesTest::moreThanTwoSignsAreAsTwo,
+            ReadBackEdgesTest::signsComeBeforeRules,
+            ReadBackEdgesTest::wholeIsAllThePiece,
+            ReadBackEdgesTest::beginHasCellsBehind,
+            ReadBackEdgesTest::middleHasCellsOnBothSides,
+            ReadBackEdgesTest::endHasCellsBefore,
+            ReadBackEdgesTest::alwaysIsAnywhere,
+            ReadBackEdgesTest::capitalSignsAtTheBeginningDoNotCount,
+            ReadBackEdgesTest::otherSignsCount,
+            ReadBackEdgesTest::mostCellsComeFirst,
+            ReadBackEdgesTest::leastKindComesNext,
+            ReadBackEdgesTest::leastNumberComesLast,
+            ReadBackEdgesTest::lettersAndMarksAreThemselves,
+            ReadBackEdgesTest::otherCellsAreUnknown,
+            ReadBackEdgesTest::readsByTheRulesThatThereAre,
+            ReadBackEdgesTest::answersHowManyCharacters,
+            ReadBackEdgesTest::refusesOtherBlocks,
+            ReadBackEdgesTest::refusalsKeepWhatIsHeard,
+            ReadBackEdgesTest::isEmptyAtFirst,
+            ReadBackEdgesTest::isASpaceWhereThereIsNone,
+            ReadBackEdgesTest::forgetsTheTextBefore);
     }
 
     /** What is heard when a text is translated with rules, and then read back with those and later ones. */

@@ -3,16 +3,16 @@ public final class ReadBackTest {
     private static final String OUT = "IndexOutOfBoundsException";
 
     public static void main(String[] args) {
-        readsPlainTexts();
-        readsSigns();
-        readsRulesWhereTheyApply();
-        prefersRules();
-        readsUnknownCells();
-        readsRulesWithSigns();
-        keepsWhatIsHeard();
-        readsNothingOfAnEarlierBlock();
-        hearsTheLongestText();
-        Desk.end();
+        Desk.run(
+            ReadBackTest::readsPlainTexts,
+            ReadBackTest::readsSigns,
+            ReadBackTest::readsRulesWhereTheyApply,
+            ReadBackTest::prefersRules,
+            ReadBackTest::readsUnknownCells,
+            ReadBackTest::readsRulesWithSigns,
+            ReadBackTest::keepsWhatIsHeard,
+            ReadBackTest::readsNothingOfAnEarlierBlock,
+            ReadBackTest::hearsTheLongestText);
     }
 
     /** What is heard when a text is translated with rules, and then read back with those and later ones. */

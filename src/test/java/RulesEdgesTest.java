@@ -3,35 +3,35 @@ public final class RulesEdgesTest {
     private static final String REFUSED = "IllegalArgumentException";
 
     public static void main(String[] args) {
-        takesTwentyFour();
-        hasTwoToSixLetters();
-        hasSmallLetters();
-        hasOneToThreeCells();
-        beginsWithItsKind();
-        hasOneSpace();
-        hasOneEqualsSign();
-        hasHyphensBetweenCells();
-        hasDotsOneToSix();
-        hasGrowingDots();
-        hasADotAtLeast();
-        isWrongWhenThereIsOneLikeIt();
-        isWrongWhenThereAreTwentyFour();
-        hasOneTextMoreThanSemicolons();
-        takesEmptyTextsForWrong();
-        countsEachForTheNext();
-        takesThemInTheirOrder();
-        answersHowManyThereAre();
-        leavesOutWrongOnes();
-        wipesWhatWasTaken();
-        refusesWhenOneIsWrong();
-        takesNoneThen();
-        keepsWhatIsTypedThen();
-        keepsEarlierRulesThen();
-        tellsTheFirstWrongOne();
-        tellsOfTheLatestCall();
-        tellsWhenNoneWasWrong();
-        tellsWhenThereWasNoCall();
-        Desk.end();
+        Desk.run(
+            RulesEdgesTest::takesTwentyFour,
+            RulesEdgesTest::hasTwoToSixLetters,
+            RulesEdgesTest::hasSmallLetters,
+            RulesEdgesTest::hasOneToThreeCells,
+            RulesEdgesTest::beginsWithItsKind,
+            RulesEdgesTest::hasOneSpace,
+            RulesEdgesTest::hasOneEqualsSign,
+            RulesEdgesTest::hasHyphensBetweenCells,
+            RulesEdgesTest::hasDotsOneToSix,
+            RulesEdgesTest::hasGrowingDots,
+            RulesEdgesTest::hasADotAtLeast,
+            RulesEdgesTest::isWrongWhenThereIsOneLikeIt,
+            RulesEdgesTest::isWrongWhenThereAreTwentyFour,
+            RulesEdgesTest::hasOneTextMoreThanSemicolons,
+            RulesEdgesTest::takesEmptyTextsForWrong,
+            RulesEdgesTest::countsEachForTheNext,
+            RulesEdgesTest::takesThemInTheirOrder,
+            RulesEdgesTest::answersHowManyThereAre,
+            RulesEdgesTest::leavesOutWrongOnes,
+            RulesEdgesTest::wipesWhatWasTaken,
+            RulesEdgesTest::refusesWhenOneIsWrong,
+            RulesEdgesTest::takesNoneThen,
+            RulesEdgesTest::keepsWhatIsTypedThen,
+            RulesEdgesTest::keepsEarlierRulesThen,
+            RulesEdgesTest::tellsTheFirstWrongOne,
+            RulesEdgesTest::tellsOfTheLatestCall,
+            RulesEdgesTest::tellsWhenNoneWasWrong,
+            RulesEdgesTest::tellsWhenThereWasNoCall);
     }
 
     private static void isRight(String text) {
@@ -210,6 +210,9 @@ public final class RulesEdgesTest {
         Desk.due("another first one", Desk.rules(x, true, "m yyz=1"), 8);
         Desk.due("another last one", Desk.rules(x, true, "m xyy=1"), 9);
         Desk.due("wrong()", x.wrong(), -1);
+        Desk.due("six letters, twice", Desk.rules(x, true, "a abcdef=1;a abcdef=2"), 10);
+        Desk.due("wrong()", x.wrong(), 1);
+        Desk.due("behind a longer one that was wrong", Desk.rules(x, true, "m xyzxyz=7;m xyz=1"), 10);
     }
 
     private static void isWrongWhenThereAreTwentyFour() {

@@ -3,13 +3,13 @@ public final class RulesTest {
     private static final String REFUSED = "IllegalArgumentException";
 
     public static void main(String[] args) {
-        takesRules();
-        knowsWrongTexts();
-        countsEarlierRules();
-        keepsAllOrNothing();
-        leavesOutWrongOnes();
-        stopsAtTwentyFour();
-        Desk.end();
+        Desk.run(
+            RulesTest::takesRules,
+            RulesTest::knowsWrongTexts,
+            RulesTest::countsEarlierRules,
+            RulesTest::keepsAllOrNothing,
+            RulesTest::leavesOutWrongOnes,
+            RulesTest::stopsAtTwentyFour);
     }
 
     private static void takesRules() {

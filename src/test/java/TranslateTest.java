@@ -4,19 +4,19 @@ public final class TranslateTest {
     private static final String OUT = "IndexOutOfBoundsException";
 
     public static void main(String[] args) {
-        knowsEveryCharacter();
-        writesNumbers();
-        writesCapitals();
-        usesRulesWhereTheyApply();
-        prefersRules();
-        mindsCapitals();
-        tellsOrigins();
-        takesBlocks();
-        refusesKindsAndCharacters();
-        refusesMoreThanTwelve();
-        refusesPlaces();
-        holdsTheDensestText();
-        Desk.end();
+        Desk.run(
+            TranslateTest::knowsEveryCharacter,
+            TranslateTest::writesNumbers,
+            TranslateTest::writesCapitals,
+            TranslateTest::usesRulesWhereTheyApply,
+            TranslateTest::prefersRules,
+            TranslateTest::mindsCapitals,
+            TranslateTest::tellsOrigins,
+            TranslateTest::takesBlocks,
+            TranslateTest::refusesKindsAndCharacters,
+            TranslateTest::refusesMoreThanTwelve,
+            TranslateTest::refusesPlaces,
+            TranslateTest::holdsTheDensestText);
     }
 
     /** The cells that a text gives, with rules. */

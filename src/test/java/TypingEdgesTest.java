@@ -7,21 +7,21 @@ public final class TypingEdgesTest {
     private static final int GREATEST = Integer.MAX_VALUE;
 
     public static void main(String[] args) {
-        hasNoRules();
-        hasNothingTyped();
-        isEmptyBook();
-        isTenWideAtLeast();
-        isFortyWideAtMost();
-        isFourHighAtLeast();
-        isTwentyHighAtMost();
-        answersTheCount();
-        refusesOtherCodes();
-        leavesAloneWhatIsTyped();
-        refusesTheEightyFirst();
-        looksAtTheCodeFirst();
-        wipes();
-        wipesNothingElse();
-        Desk.end();
+        Desk.run(
+            TypingEdgesTest::hasNoRules,
+            TypingEdgesTest::hasNothingTyped,
+            TypingEdgesTest::isEmptyBook,
+            TypingEdgesTest::isTenWideAtLeast,
+            TypingEdgesTest::isFortyWideAtMost,
+            TypingEdgesTest::isFourHighAtLeast,
+            TypingEdgesTest::isTwentyHighAtMost,
+            TypingEdgesTest::answersTheCount,
+            TypingEdgesTest::refusesOtherCodes,
+            TypingEdgesTest::leavesAloneWhatIsTyped,
+            TypingEdgesTest::refusesTheEightyFirst,
+            TypingEdgesTest::looksAtTheCodeFirst,
+            TypingEdgesTest::wipes,
+            TypingEdgesTest::wipesNothingElse);
     }
 
     private static void hasNoRules() {

@@ -1,11 +1,11 @@
 /** Promises 2 (type) and 3 (wipe). */
 public final class TypingTest {
     public static void main(String[] args) {
-        countsCharacters();
-        refusesOtherCodes();
-        refusesMoreThanEighty();
-        wipes();
-        Desk.end();
+        Desk.run(
+            TypingTest::countsCharacters,
+            TypingTest::refusesOtherCodes,
+            TypingTest::refusesMoreThanEighty,
+            TypingTest::wipes);
     }
 
     private static void countsCharacters() {
