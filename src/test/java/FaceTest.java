@@ -1,12 +1,18 @@
+import java.io.IOException;
+import java.io.UncheckedIOException;
 import java.lang.reflect.Constructor;
 import java.lang.reflect.Field;
 import java.lang.reflect.Method;
 import java.lang.reflect.Modifier;
+import java.nio.file.Files;
+import java.nio.file.Path;
 import java.util.ArrayList;
 import java.util.List;
 import java.util.TreeSet;
+import java.util.regex.Matcher;
+import java.util.regex.Pattern;
 
-/** The document's public face, and the rules of the language that can be seen in the compiled class. */
+/** The document's public face, and the rules of the language that can be seen in the compiled class and its source. */
 public final class FaceTest {
     private static final String[] FACE = {
         "public int type(char) throws IllegalArgumentException,IllegalStateException",
@@ -24,12 +30,25 @@ public final class FaceTest {
         "public int heading(int)",
         "public void clear()",
     };
+    private static final Path SOURCE = Path.of("src", "main", "java", "DotBook.java");
+    private static final String COMMENTS = "(?s)/\\*.*?\\*/|//[^\n]*";
+    // What no rule of LANGUAGE.md has room for, or what this class does without.
+    private static final String[] RULED_OUT = {
+        "import", "package", "try", "catch", "finally", "synchronized", "assert", "protected", "native", "volatile",
+        "System", "Thread", "Random", "Object", "hashCode", "toString", "Exact", "NaN",
+    };
+    private static final String THROWN_BARE =
+        "throw new (IllegalArgumentException|IllegalStateException|IndexOutOfBoundsException)\\(\\);";
+    private static final int LONGEST_METHOD = 60;
 
     public static void main(String[] args) {
         Desk.run(
             FaceTest::hasTheFaceAlone,
             FaceTest::keepsNamesApart,
-            FaceTest::hasNoStaticState);
+            FaceTest::hasNoStaticState,
+            FaceTest::usesNothingRuledOut,
+            FaceTest::throwsWhatTheDocumentNames,
+            FaceTest::hasShortMethods);
     }
 
     private static void hasTheFaceAlone() {
@@ -82,6 +101,42 @@ public final class FaceTest {
                 fields += isStatic ? 0 : 1;
             }
             Desk.due("at most twenty fields: " + c, fields <= 20, true);
+        }
+    }
+
+    private static void usesNothingRuledOut() {
+        String code = source().replaceAll(COMMENTS, "");
+        for (String word : RULED_OUT) {
+            Desk.due("uses " + word, Pattern.compile("\\b" + word + "\\b").matcher(code).find(), false);
+        }
+        Desk.due("uses a lambda", code.contains("->"), false);
+        Desk.due("uses a method reference", code.contains("::"), false);
+        Desk.due("has an initialiser block", Pattern.compile("static\\s*\\{").matcher(code).find(), false);
+        Desk.due("has other characters than ASCII's", code.chars().anyMatch(c -> c > 126), false);
+    }
+
+    private static void throwsWhatTheDocumentNames() {
+        String code = source().replaceAll(COMMENTS, "");
+        int thrown = code.split("\\bthrow\\b", -1).length - 1;
+        Desk.due("throws", code.split(THROWN_BARE, -1).length - 1, thrown);
+    }
+
+    private static void hasShortMethods() {
+        // A method is all that stands between its first line and the bracket below it that is as far to the right.
+        Matcher method = Pattern.compile("(?ms)^( +)[^\n]*\\) [^\n]*\\{$.*?^\\1\\}$").matcher(source());
+        int longest = 0;
+        while (method.find()) {
+            longest = Math.max(longest, method.group().split("\n").length);
+        }
+        Desk.due("methods were found", longest > 0, true);
+        Desk.due("longest method of " + longest + " lines", longest <= LONGEST_METHOD, true);
+    }
+
+    private static String source() {
+        try {
+            return Files.readString(SOURCE);
+        } catch (IOException e) {
+            throw new UncheckedIOException(e);
         }
     }
 }
